@@ -862,11 +862,15 @@ public final class ClusterShelf {
     }
 
     void empty() {
-      Arrays.fill(has, false);
-      Arrays.fill(hold, 0);
-      Arrays.fill(asked, 0);
-      Arrays.fill(back, NONE);
-      Arrays.fill(pinned, false);
+      for (int block = 0; block < BLOCKS; block++) {
+        has[block] = false;
+      }
+      for (int r = 0; r < RESOURCES; r++) {
+        hold[r] = 0;
+        asked[r] = 0;
+        back[r] = NONE;
+        pinned[r] = false;
+      }
       flush.underWay = false;
       held = 0;
       logged = 0;
@@ -1636,7 +1640,9 @@ public final class ClusterShelf {
       int block = size % WORDS == 0 ? 0 : blockOf(k, size);
       if (block != 0) {
         int cell = at(block, TO_SET);
-        Arrays.fill(cells, cell + size % WORDS, cell + WORDS, 0);
+        for (int w = size % WORDS; w < WORDS; w++) {
+          cells[cell + w] = 0;
+        }
       }
       value = had;
     }
@@ -1809,8 +1815,10 @@ public final class ClusterShelf {
 
     /** Goes through all directories from the root on. */
     private void walk() {
-      Arrays.fill(named, 0);
-      Arrays.fill(reached, false);
+      for (int k = 0; k < INODES; k++) {
+        named[k] = 0;
+        reached[k] = false;
+      }
       namesNothing = false;
       reached[0] = true;
       queue[0] = 0;
@@ -1885,7 +1893,9 @@ public final class ClusterShelf {
     }
 
     private void collectBlocks() {
-      Arrays.fill(owned, false);
+      for (int block = 0; block < BLOCKS; block++) {
+        owned[block] = false;
+      }
       Arrays.fill(bits, 0);
       owesWrongly = false;
       for (int k = 0; k < INODES; k++) {
