@@ -3,6 +3,7 @@ public final class P02LocksTest {
   private static final int NONE = ClusterShelf.NONE;
 
   public static void main(String[] args) {
+    modes();
     listGrows();
     shareAndCallBack();
     downToShared();
@@ -10,10 +11,36 @@ public final class P02LocksTest {
     raise();
     rowInOrder();
     fullLog();
+    logsNoMore();
+    otherMaps();
     readsNoMore();
     undoneLeavesNothing();
     flushAgain();
     Due.end();
+  }
+
+  /** The mode in which each kind meets its first resource. */
+  private static void modes() {
+    int[] due = {1, 2, 2, 2, 2, 1, 2, 2, 1, 1, 0, 2, 2, 1, 0};
+    for (int kind = 0; kind < due.length; kind++) {
+      ClusterShelf x = new ClusterShelf(2);
+      x.call(0, kind, 3, 1, 1, 1);
+      Due.is("mode of kind " + kind, x.lock(0, 3, 3), due[kind]);
+      Due.is("asked by kind " + kind, x.lock(0, 3, 1), due[kind]);
+    }
+    ClusterShelf x = new ClusterShelf(2);
+    Due.begin(x, 0, Due.ROOM);
+    Due.is("a map, to count", x.lock(0, 128, 3), 1);
+    Due.done("directory", x, 1, 1, Due.MAKE, 0, 5, 2);
+    Due.done("file", x, 2, 1, Due.MAKE, 0, 6, 1);
+    Due.done("sync", x, 0, 1, Due.SYNC);
+    x.tick(100);
+    Due.begin(x, 0, Due.RENAME, 0, 6, 1, 7);
+    for (int t = 0; t < 100 && x.lock(0, 2, 3) == 0; t++) {
+      x.tick(1);
+    }
+    Due.is("the other directory", x.lock(0, 1, 3), 2);
+    Due.is("the inode that is renamed", x.lock(0, 2, 3), 1);
   }
 
   /** MAKE meets the root, the map of group 0 and inode 1, one by one. */
@@ -247,6 +274,71 @@ public final class P02LocksTest {
     Due.is("the root waits", y.lock(0, 0, 2), 1);
     y.tick(9);
     Due.is("the root went down", y.lock(0, 0, 0), 1);
+  }
+
+  /** No block is changed, and no resource met, that needn't be. */
+  private static void logsNoMore() {
+    ClusterShelf x = new ClusterShelf(2);
+    Due.done("make", x, 1, 0, Due.MAKE, 0, 5, 1);
+    Due.done("write", x, 1, 0, Due.WRITE, 1, 20, 1);
+    Due.done("sync", x, 0, 0, Due.SYNC);
+    Due.done("at the end again", x, 2, 0, Due.WRITE, 1, 20, 2);
+    Due.is("the size isn't set", x.node(0, 2), 1);
+    Due.is("the inode alone is met", x.result(0, 4), 1);
+    Due.done("behind the end", x, 2, 0, Due.ADD, 1, 21, 2);
+    Due.is("the size is set", x.node(0, 2), 2);
+    Due.done("sync", x, 0, 0, Due.SYNC);
+    Due.done("cut where nothing goes", x, 22, 0, Due.CUT, 1, 21);
+    Due.is("inode and last block", x.node(0, 2), 2);
+    Due.is("no map is met", x.result(0, 4), 1);
+    int cached = x.node(0, 5);
+    Due.done("cut without an index", x, 21, 0, Due.CUT, 1, 16);
+    Due.is("inode and map", x.node(0, 2), 2);
+    Due.is("the map is met", x.result(0, 4), 2);
+    Due.is("the block left the cache", x.node(0, 5), cached - 1);
+    Due.done("links", x, 2, 0, Due.LINK, 0, 6, 1);
+    Due.done("sync", x, 0, 0, Due.SYNC);
+    Due.done("one link less", x, 0, 0, Due.REMOVE, 0, 6);
+    Due.is("the entry's block and the inode", x.node(0, 2), 2);
+    Due.is("no map is met", x.result(0, 4), 2);
+    Due.done("sync", x, 0, 0, Due.SYNC);
+    Due.done("rename", x, 0, 0, Due.RENAME, 0, 5, 0, 7);
+    Due.is("the entry's block", x.node(0, 2), 1);
+    Due.done("sync", x, 0, 0, Due.SYNC);
+
+    // 16 blocks without those of the root: with the entry's block they would be too many.
+    writes(x, 1, 8);
+    writes(x, 9, 14);
+    Due.is("map, inode, 7 blocks, index, 5 blocks", x.node(0, 2), 15);
+    Due.is("one more", Due.begin(x, 0, Due.WRITE, 1, 14 * 16, 1), 1);
+    Due.is("full", x.node(0, 2), 16);
+    Due.is("all of them are given back", Due.begin(x, 0, Due.REMOVE, 0, 7), 1);
+    Due.is("entry's block, inode, map", x.node(0, 2), 3);
+  }
+
+  /** When group 0 has no block left, its map is met and read, but not changed. */
+  private static void otherMaps() {
+    ClusterShelf x = new ClusterShelf(2);
+    Due.done("make", x, 1, 0, Due.MAKE, 0, 5, 1);
+    Due.done("make", x, 2, 0, Due.MAKE, 0, 6, 1);
+    for (int place = 0; place < 24; place++) {
+      Due.done("write", x, place, 0, Due.WRITE, 1, 16 * place, place);
+    }
+    for (int place = 0; place < 20; place++) {
+      Due.done("write", x, place, 0, Due.WRITE, 2, 16 * place, place);
+    }
+    Due.done("sync", x, 0, 0, Due.SYNC);
+    Due.is("all of group 0 but none", x.about(7), 47);
+    Due.done("of group 1", x, 7, 0, Due.WRITE, 2, 350, 7);
+    Due.is("inode, map, block, index", x.node(0, 2), 4);
+    Due.is("inode and both maps", x.result(0, 4), 3);
+    Due.is("the first one of group 1", x.cached(0, 209, 350 % 16), 7);
+    Due.is("map of group 1", x.cached(0, 192, 1), 1);
+    Due.done("given back", x, 351, 0, Due.CUT, 2, 0);
+    Due.is("both maps", x.result(0, 4), 3);
+    Due.is("map of group 1", x.cached(0, 192, 1), 0);
+    Due.is("map of group 0", x.cached(0, 128, 1), (1 << 26) - 1);
+    Due.is("map of group 0", x.cached(0, 128, 2), 0);
   }
 
   /** No block is read that isn't needed. */

@@ -135,5 +135,20 @@ public final class P05CrashTest {
     x.recover(0);
     Due.is("now it comes", x.tick(2), 1);
     Due.is("to nothing", x.result(1, 1), -5);
+
+    ClusterShelf y = new ClusterShelf(4);
+    Due.done("make", y, 1, 0, Due.MAKE, 0, 5, 1);
+    Due.begin(y, 1, Due.COUNT, 0);
+    y.tick(2);
+    Due.is("called back", y.lock(0, 0, 2), 1);
+    Due.begin(y, 3, Due.STAT, 2, 0);
+    Due.begin(y, 2, Due.STAT, 3, 0);
+    y.delay(1, 2, 5);
+    y.crash(0, 0);
+    Due.is("not called back any more", y.lock(0, 0, 2), NONE);
+    Due.is("messages of others stay", y.about(1), 2);
+    Due.is("first", y.message(0, 0), 3);
+    Due.is("second", y.message(1, 0), 2);
+    Due.is("they come", y.tick(2), 2);
   }
 }

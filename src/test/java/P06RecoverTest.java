@@ -132,5 +132,20 @@ public final class P06RecoverTest {
     Due.is("written", x.word(1, 2), 0);
     Due.is("held still", x.lock(0, 0, 0), 2);
     Due.is("head", x.word(1, 1), 4);
+
+    // A flush is over, the log is not empty, and the call waits, but not for the log.
+    ClusterShelf y = new ClusterShelf(4);
+    Due.done("make", y, 1, 0, Due.MAKE, 0, 5, 1);
+    Due.begin(y, 2, Due.LOOK, 0, 5);
+    y.tick(3);
+    y.crash(2, 0);
+    y.recover(2);
+    Due.is("write", Due.begin(y, 0, Due.WRITE, 1, 0, 3), 1);
+    y.delay(0, 3, 20);
+    Due.begin(y, 0, Due.STAT, 3, 0);
+    y.tick(9);
+    Due.is("no other flush", y.node(0, 4), 1);
+    Due.is("none is under way", y.node(0, 3), 0);
+    Due.is("log", y.node(0, 2), 3);
   }
 }

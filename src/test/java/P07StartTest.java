@@ -3,6 +3,7 @@ public final class P07StartTest {
   public static void main(String[] args) {
     wrongOnes();
     startsEmpty();
+    callsGoOn();
     Due.end();
   }
 
@@ -26,6 +27,25 @@ public final class P07StartTest {
     Due.ise("it is up", () -> x.start(0));
     x.start(1);
     Due.is("up", x.node(1, 0) + x.node(1, 1), 2);
+  }
+
+  /** What was called back is so no more, so a call that waited for that goes on. */
+  private static void callsGoOn() {
+    ClusterShelf x = new ClusterShelf(3);
+    x.crash(2, 0);
+    x.recover(2);
+    Due.done("make", x, 1, 0, Due.MAKE, 0, 5, 1);
+    Due.begin(x, 1, Due.LOOK, 0, 5);
+    x.tick(2);
+    Due.is("called back", x.lock(0, 0, 2), 1);
+    Due.is("a call waits", Due.begin(x, 0, Due.COUNT, 0), 0);
+    x.start(2);
+    Due.is("it went on", x.result(0, 0), 2);
+    Due.is("with", x.result(0, 1), 1);
+    Due.is("the other one is called for anew", x.message(0, 2), 2);
+    Due.is("the row", x.row(0, 1), 1);
+    x.tick(14);
+    Due.is("it ends", x.result(1, 1), 1);
   }
 
   private static void startsEmpty() {
