@@ -313,8 +313,10 @@ public final class P02CallKindsTest {
     for (int k = 1; k <= 15; k++) {
       Due.done("file", x, k, 0, Due.MAKE, 0, k, 1);
     }
-    // The root has one block in use for its first 8 entries, two for all.
-    int left = 376 - 2;
+    Due.done("directory", x, 16, 0, Due.MAKE, 0, 16, 2);
+    // The root has a block for each 8 entries.
+    Due.done("an empty file", x, 17, 0, Due.MAKE, 0, 17, 1);
+    int left = 376 - 3;
     for (int k = 1; k <= 15 && left > 0; k++) {
       for (int place = 383; place > 0 && left > 0; place -= 16) {
         int needs = place == 383 ? 2 : 1;
@@ -326,6 +328,10 @@ public final class P02CallKindsTest {
     }
     Due.done("nothing is free", x, 0, 1, Due.ROOM);
     Due.fault("write", x, -7, 0, Due.WRITE, 15, 5, 1);
+    Due.fault("make, without a block for the entry", x, -7, 0, Due.MAKE, 16, 5, 1);
+    Due.fault("link likewise", x, -7, 0, Due.LINK, 16, 5, 1);
+    Due.fault("rename likewise", x, -7, 0, Due.RENAME, 0, 1, 16, 1);
+    Due.fault("append likewise", x, -7, 0, Due.APPEND, 17, 1);
     Due.done("size stays", x, 384, 0, Due.STAT, 15, 2);
     Due.done("cut gives back", x, 384, 0, Due.CUT, 14, 0);
     Due.done("room", x, 25, 1, Due.ROOM);

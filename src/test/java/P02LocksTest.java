@@ -13,6 +13,8 @@ public final class P02LocksTest {
     fullLog();
     logsNoMore();
     otherMaps();
+    mapsInOrder();
+    broughtStays();
     readsNoMore();
     undoneLeavesNothing();
     flushAgain();
@@ -305,6 +307,17 @@ public final class P02LocksTest {
     Due.done("rename", x, 0, 0, Due.RENAME, 0, 5, 0, 7);
     Due.is("the entry's block", x.node(0, 2), 1);
     Due.done("sync", x, 0, 0, Due.SYNC);
+    Due.done("with an index", x, 5, 0, Due.WRITE, 1, 130, 5);
+    Due.done("sync", x, 0, 0, Due.SYNC);
+    Due.done("read", x, 5, 0, Due.READ, 1, 130);
+    Due.is("nothing is changed", x.node(0, 2), 0);
+    Due.done("where there is a block", x, 6, 0, Due.WRITE, 1, 129, 6);
+    Due.is("the block alone", x.node(0, 2), 1);
+    Due.done("sync", x, 0, 0, Due.SYNC);
+    Due.done("cut to more", x, 131, 0, Due.CUT, 1, 200);
+    Due.is("the inode alone", x.node(0, 2), 1);
+    Due.done("cut to none", x, 200, 0, Due.CUT, 1, 0);
+    Due.done("sync", x, 0, 0, Due.SYNC);
 
     // 16 blocks without those of the root: with the entry's block they would be too many.
     writes(x, 1, 8);
@@ -339,6 +352,56 @@ public final class P02LocksTest {
     Due.is("map of group 1", x.cached(0, 192, 1), 0);
     Due.is("map of group 0", x.cached(0, 128, 1), (1 << 26) - 1);
     Due.is("map of group 0", x.cached(0, 128, 2), 0);
+
+    // Inodes likewise.
+    for (int k = 3; k < 16; k++) {
+      Due.done("make", x, k, 0, Due.MAKE, 0, 100 + k, 1);
+    }
+    Due.done("sync", x, 0, 0, Due.SYNC);
+    Due.done("of group 1", x, 16, 0, Due.MAKE, 0, 116, 1);
+    Due.is("root and its block, map, inode", x.node(0, 2), 4);
+    Due.is("root, inode and both maps", x.result(0, 4), 4);
+  }
+
+  /** Maps are met one by one, as the blocks that are given back come. */
+  private static void mapsInOrder() {
+    ClusterShelf x = new ClusterShelf(2);
+    Due.done("make", x, 1, 0, Due.MAKE, 0, 5, 1);
+    Due.done("make", x, 2, 0, Due.MAKE, 0, 6, 1);
+    for (int place = 0; place < 24; place++) {
+      Due.done("write", x, place, 0, Due.WRITE, 1, 16 * place, place);
+    }
+    for (int place = 0; place < 24; place++) {
+      Due.done("write", x, place, 0, Due.WRITE, 2, 16 * place, place);
+    }
+    Due.begin(x, 1, Due.REMOVE, 0, 6);
+    int[] order = {0, 2, 128, 129};
+    for (int i = 0; i < order.length; i++) {
+      for (int t = 0; t < 200 && x.result(1, 4) == i; t++) {
+        x.tick(1);
+      }
+      Due.is("list", x.result(1, 4), i + 1);
+      Due.is("the next one in it", x.lock(1, order[i], 3), 2);
+    }
+  }
+
+  /** What came from the disk to be changed stays, as it was there, when that is undone. */
+  private static void broughtStays() {
+    ClusterShelf x = new ClusterShelf(2);
+    Due.done("make", x, 1, 1, Due.MAKE, 0, 5, 1);
+    Due.done("write", x, 77, 1, Due.WRITE, 1, 383, 77);
+    Due.done("size", x, 384, 0, Due.STAT, 1, 2);
+    Due.done("in node 0", x, 0, 0, Due.WRITE, 1, 0, 0);
+    Due.rest(x);
+    writes(x, 1, 8);
+    writes(x, 9, 14);
+    Due.is("map, inode, 8 blocks, index, 5 blocks", x.node(0, 2), 16);
+    int block = x.cached(0, x.cached(0, 130, 11), 15);
+    Due.nsee("not read yet", () -> x.cached(0, block, 15));
+    Due.is("one more waits", Due.begin(x, 0, Due.WRITE, 1, 383, 78), 0);
+    Due.is("undone", x.cached(0, block, 15), 77);
+    Due.is("it ends", x.tick(35), 1);
+    Due.is("done", x.cached(0, block, 15), 78);
   }
 
   /** No block is read that isn't needed. */
@@ -379,5 +442,8 @@ public final class P02LocksTest {
     Due.is("map", x.cached(0, 128, 0), 3);
     Due.is("it changed nothing", x.history(x.about(4) - 1, 9), 0);
     Due.nsee("the inode that wasn't made", () -> x.cached(0, 131, 0));
+    Due.fault("it is read", x, -5, 0, Due.STAT, 2, 0);
+    Due.fault("no entry is free", x, -7, 0, Due.MAKE, 0, 500, 1);
+    Due.is("so it stays as it was", x.cached(0, 131, 0), 0);
   }
 }

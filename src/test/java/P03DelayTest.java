@@ -42,20 +42,22 @@ public final class P03DelayTest {
   }
 
   private static void keepsOrder() {
-    ClusterShelf x = new ClusterShelf(2);
-    // Node 0 is the master of the root; it grants to node 1, slowly.
-    x.delay(0, 1, 10);
-    Due.begin(x, 1, Due.STAT, 0, 0);
+    ClusterShelf x = new ClusterShelf(3);
+    // Node 0 is the master of the root; it grants to node 2, slowly.
+    x.delay(0, 2, 10);
+    Due.begin(x, 2, Due.STAT, 0, 0);
     x.tick(1);
     Due.is("grant comes at", x.message(0, 5), 11);
-    x.delay(0, 1, 1);
+    x.delay(0, 2, 1);
     Due.begin(x, 0, Due.REMOVE, 0, 5);
     x.tick(1);
     Due.is("call back behind it", x.message(1, 2), 2);
+    Due.is("to the same node", x.message(1, 1), 2);
     Due.is("not ahead of the grant", x.message(1, 5), 11);
-    Due.is("to the same node", x.message(1, 1), 1);
-    Due.is("both come in order", x.tick(9), 1);
-    Due.is("granted, ended, and called back", x.lock(1, 0, 0), 0);
+    Due.begin(x, 1, Due.STAT, 2, 0);
+    Due.is("another pair of nodes", x.message(2, 5), 3);
+    Due.is("both come in order, and that of node 1 has ended", x.tick(9), 2);
+    Due.is("granted, ended, and called back", x.lock(2, 0, 0), 0);
     Due.is("it goes down then", x.message(0, 2), 3);
     x.tick(2);
     Due.is("and the other one has it", x.lock(0, 0, 0), 2);

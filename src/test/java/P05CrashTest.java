@@ -150,5 +150,18 @@ public final class P05CrashTest {
     Due.is("first", y.message(0, 0), 3);
     Due.is("second", y.message(1, 0), 2);
     Due.is("they come", y.tick(2), 2);
+
+    ClusterShelf z = new ClusterShelf(4);
+    for (int node = 0; node < 4; node++) {
+      Due.begin(z, node, Due.STAT, 4 + (node + 1) % 4, 0);
+    }
+    Due.is("four requests", z.about(1), 4);
+    z.crash(0, 0);
+    Due.is("from node 0 and to it are gone", z.about(1), 2);
+    int[][] left = {{1, 2, 0, 6, 1, 1}, {2, 3, 0, 7, 1, 1}};
+    for (int what = 0; what < 6; what++) {
+      Due.is("first of those left", z.message(0, what), left[0][what]);
+      Due.is("second of those left", z.message(1, what), left[1][what]);
+    }
   }
 }

@@ -147,5 +147,23 @@ public final class P06RecoverTest {
     Due.is("no other flush", y.node(0, 4), 1);
     Due.is("none is under way", y.node(0, 3), 0);
     Due.is("log", y.node(0, 2), 3);
+
+    // A call that waits for the log waits until all of it is written.
+    ClusterShelf z = new ClusterShelf(4);
+    Due.done("make", z, 1, 0, Due.MAKE, 0, 5, 1);
+    Due.begin(z, 2, Due.LOOK, 0, 5);
+    z.tick(3);
+    z.crash(2, 0);
+    z.recover(2);
+    for (int place = 0; place < 13; place++) {
+      Due.is("write", Due.begin(z, 0, Due.WRITE, 1, 16 * place, 3), 1);
+    }
+    Due.is("log is full", z.node(0, 2), 16);
+    Due.is("one more waits", Due.begin(z, 0, Due.WRITE, 1, 16 * 13, 3), 0);
+    Due.is("it waits still", z.tick(9), 0);
+    Due.is("the next flush", z.node(0, 3), 35);
+    Due.is("it was not tried again", z.result(0, 3), 3);
+    Due.is("it ends", z.tick(35), 1);
+    Due.is("tries", z.result(0, 3), 4);
   }
 }

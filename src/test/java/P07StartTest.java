@@ -4,6 +4,7 @@ public final class P07StartTest {
     wrongOnes();
     startsEmpty();
     callsGoOn();
+    nothingIsPinned();
     Due.end();
   }
 
@@ -46,6 +47,21 @@ public final class P07StartTest {
     Due.is("the row", x.row(0, 1), 1);
     x.tick(14);
     Due.is("it ends", x.result(1, 1), 1);
+  }
+
+  /** What the lost call had pinned is not pinned when the node starts again. */
+  private static void nothingIsPinned() {
+    ClusterShelf x = new ClusterShelf(2);
+    Due.begin(x, 0, Due.MAKE, 0, 5, 1);
+    x.tick(3);
+    x.crash(0, 0);
+    x.recover(0);
+    x.start(0);
+    Due.begin(x, 0, Due.COUNT, 0);
+    Due.is("tries", x.result(0, 3), 1);
+    Due.is("it asks", x.lock(0, 0, 1), 1);
+    Due.is("it ends", x.tick(2), 1);
+    Due.is("tries", x.result(0, 3), 2);
   }
 
   private static void startsEmpty() {

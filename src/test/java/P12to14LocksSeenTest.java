@@ -86,6 +86,11 @@ public final class P12to14LocksSeenTest {
       Due.is("row(0, " + what + ")", x.row(0, what), due[what]);
     }
     Due.is("another row", x.row(1, 1), 0);
+    x.tick(2);
+    int[] later = {0, 2, 1, 2, 0, 1, NONE, NONE};
+    for (int what = 0; what < later.length; what++) {
+      Due.is("when the first was served: row(0, " + what + ")", x.row(0, what), later[what]);
+    }
     x.crash(0, 0);
     int[] down = {0, 0, NONE, NONE, NONE};
     for (int what = 0; what < down.length; what++) {
