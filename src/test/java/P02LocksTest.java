@@ -374,8 +374,8 @@ public final class P02LocksTest {
     for (int place = 0; place < 24; place++) {
       Due.done("write", x, place, 0, Due.WRITE, 2, 16 * place, place);
     }
-    Due.begin(x, 1, Due.REMOVE, 0, 6);
-    int[] order = {0, 2, 128, 129};
+    Due.begin(x, 1, Due.CUT, 2, 140);
+    int[] order = {2, 128, 129};
     for (int i = 0; i < order.length; i++) {
       for (int t = 0; t < 200 && x.result(1, 4) == i; t++) {
         x.tick(1);
