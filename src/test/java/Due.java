@@ -49,6 +49,20 @@ final class Due {
     thrown(what, act, "NoSuchElementException");
   }
 
+  /** An act that must throw, and change nothing that is seen. */
+  static void refused(String what, ClusterShelf x, String exception, Act act) {
+    String before = seen(x);
+    thrown(what, act, exception);
+    same(what + " changes nothing", seen(x), before);
+  }
+
+  static void same(String what, String got, String want) {
+    if (!got.equals(want)) {
+      wrong++;
+      System.out.println(what + ": what is seen is not the same");
+    }
+  }
+
   private static void thrown(String what, Act act, String want) {
     String got = "nothing";
     try {
@@ -79,6 +93,14 @@ final class Due {
     return x.call(node, kind, all[0], all[1], all[2], all[3]);
   }
 
+  /** A call with ticks enough for it, in two calls at most: its value or its fault. */
+  static int go(ClusterShelf x, int node, int kind, int... args) {
+    if (begin(x, node, kind, args) == 0) {
+      x.tick(100);
+    }
+    return x.result(node, 1);
+  }
+
   /** A call that must come to this value. */
   static void done(String what, ClusterShelf x, int want, int node, int kind, int... args) {
     int got = run(x, node, kind, args);
@@ -106,6 +128,68 @@ final class Due {
       busy = busy || x.node(i, 3) > 0;
     }
     return busy;
+  }
+
+  /** All that is seen of an object, as one text. */
+  static String seen(ClusterShelf x) {
+    StringBuilder all = new StringBuilder();
+    int nodes = x.about(6);
+    for (int what = 0; what < 10; what++) {
+      all.append(x.about(what)).append(' ');
+    }
+    for (int i = 0; i < x.about(1); i++) {
+      for (int what = 0; what < 6; what++) {
+        all.append(x.message(i, what)).append(' ');
+      }
+    }
+    for (int i = 0; i < Math.min(400, x.about(4)); i++) {
+      for (int what = 0; what < 10; what++) {
+        all.append(x.history(i, what)).append(' ');
+      }
+    }
+    for (int r = 0; r < 136; r++) {
+      for (int what = 0; what < 2 + 2 * (nodes + 1); what++) {
+        all.append(x.row(r, what)).append(' ');
+      }
+    }
+    for (int node = 0; node < nodes; node++) {
+      seeNode(all, x, node);
+    }
+    for (int block = 0; block < 640; block++) {
+      for (int i = 0; i < 16; i++) {
+        all.append(x.word(block, i)).append(' ');
+      }
+    }
+    return all.toString();
+  }
+
+  private static void seeNode(StringBuilder all, ClusterShelf x, int node) {
+    for (int what = 0; what < 7; what++) {
+      all.append(x.node(node, what)).append(' ');
+    }
+    for (int what = 0; what < 5; what++) {
+      all.append(x.result(node, what)).append(' ');
+      for (int r = 0; r < 136; r++) {
+        all.append(x.lock(node, r, what)).append(' ');
+      }
+    }
+    for (int block = 0; block < 640; block++) {
+      if (isCached(x, node, block)) {
+        all.append("block ").append(block).append(' ');
+        for (int i = 0; i < 16; i++) {
+          all.append(x.cached(node, block, i)).append(' ');
+        }
+      }
+    }
+  }
+
+  static boolean isCached(ClusterShelf x, int node, int block) {
+    try {
+      x.cached(node, block, 0);
+      return true;
+    } catch (NoSuchElementException e) {
+      return false;
+    }
   }
 
   static int inodeBlock(int k) {
