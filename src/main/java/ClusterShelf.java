@@ -1117,7 +1117,6 @@ public final class ClusterShelf {
       this.member = member;
       work = member.work;
       cells = member.cache;
-      clean();
       outcome = DONE;
       value = 0;
       work.tries++;
@@ -1862,9 +1861,8 @@ public final class ClusterShelf {
     }
 
     private boolean isDirectoryNamedTwice() {
-      for (int k = 0; k < INODES; k++) {
-        int most = k == 0 ? 0 : 1;
-        if (ofInode(k, KIND) == DIRECTORY && named[k] > most) {
+      for (int k = 1; k < INODES; k++) {
+        if (ofInode(k, KIND) == DIRECTORY && named[k] > 1) {
           return true;
         }
       }

@@ -13,6 +13,9 @@ public final class Edges3CutTest {
     indexAlone();
     within();
     givenBackInOrder();
+    stopsAtTheFirstThatLacks();
+    indexOfAnotherGroup();
+    blockOfAnotherGroup();
     Due.end();
   }
 
@@ -168,5 +171,82 @@ public final class Edges3CutTest {
     Due.is("all 0", x.cached(0, 153, 15), 0);
     Due.is("but the word", x.cached(0, 153, 0), 3);
     Due.is("on the disk it is as it was", x.word(153, 15), 2007);
+  }
+
+  private static void untilListed(ClusterShelf x, int resources) {
+    for (int t = 0; t < 200 && x.result(1, 4) < resources; t++) {
+      x.tick(1);
+    }
+    Due.is("list", x.result(1, 4), resources);
+  }
+
+  /** "no block that it needn't": a try that meets what isn't pinned reads nothing behind that. */
+  private static void stopsAtTheFirstThatLacks() {
+    ClusterShelf x = whole();
+    Due.begin(x, 1, Due.CUT, 1, 5);
+    untilListed(x, 2);
+    Due.is("the inode, not the last block", x.node(1, 5), 1);
+    ClusterShelf y = whole();
+    Due.begin(y, 1, Due.CUT, 1, 133);
+    untilListed(y, 2);
+    Due.is("the inode and the index, not the last block", y.node(1, 5), 2);
+    ClusterShelf z = whole();
+    Due.begin(z, 1, Due.REMOVE, 0, 5);
+    untilListed(z, 3);
+    Due.is("the root, its block, the inode, not the index", z.node(1, 5), 3);
+  }
+
+  /** Group 0 has no block left: file 2 has its index there, but the index's block in group 1. */
+  private static ClusterShelf fullGroup() {
+    ClusterShelf x = new ClusterShelf(2);
+    for (int k = 1; k <= 4; k++) {
+      Due.go(x, 0, Due.MAKE, 0, k, 1);
+    }
+    // With the root's block 1 + 25 + 8 + 12 of the 47.
+    int[][] files = {{1, 24}, {2, 8}, {3, 11}};
+    for (int[] file : files) {
+      for (int place = 0; place < file[1]; place++) {
+        Due.go(x, 0, Due.WRITE, file[0], 16 * place, 7);
+      }
+    }
+    Due.go(x, 0, Due.WRITE, 2, 128, 8);
+    Due.go(x, 0, Due.WRITE, 4, 0, 9);
+    Due.go(x, 0, Due.SYNC);
+    Due.is("the index is the last one of group 0", x.word(131, 11), 191);
+    Due.is("its block the first one of group 1", x.word(191, 0), 209);
+    Due.is("and that of file 4 the second", x.word(133, 3), 210);
+    return x;
+  }
+
+  private static void indexOfAnotherGroup() {
+    ClusterShelf x = fullGroup();
+    Due.begin(x, 1, Due.CUT, 2, 120);
+    untilListed(x, 2);
+    Due.is("first the block's map", x.lock(1, 129, 3), 2);
+    Due.is("inode and index", x.node(1, 5), 2);
+    untilListed(x, 3);
+    Due.is("then the index's", x.lock(1, 128, 3), 2);
+    Due.is("inode, index, map of group 1", x.node(1, 5), 3);
+    x.tick(50);
+    Due.is("it ends", x.result(1, 1), 129);
+    Due.is("inode, both maps, last block", x.node(1, 2), 4);
+    Due.done("sync", x, 0, 1, Due.SYNC);
+    Due.is("about(9)", x.about(9), 0);
+  }
+
+  /** REMOVE: "its blocks are GIVEN BACK .. and then the inode (its group's map (2) ..)". */
+  private static void blockOfAnotherGroup() {
+    ClusterShelf x = fullGroup();
+    Due.begin(x, 1, Due.REMOVE, 0, 4);
+    untilListed(x, 3);
+    Due.is("first the block's map", x.lock(1, 129, 3), 2);
+    Due.is("not yet its own", x.lock(1, 128, 3), 0);
+    untilListed(x, 4);
+    Due.is("then its own", x.lock(1, 128, 3), 2);
+    x.tick(50);
+    Due.is("it ends", x.result(1, 0), 2);
+    Due.is("root's block, inode, both maps", x.node(1, 2), 4);
+    Due.done("sync", x, 0, 1, Due.SYNC);
+    Due.is("about(9)", x.about(9), 0);
   }
 }

@@ -11,6 +11,8 @@ public final class Edges3LogTest {
     emptyList();
     pinsInOrder();
     givesUpWhatIsBehind();
+    lowerOneIsAddedLater();
+    lowerBlockIsChangedLater();
     Due.end();
   }
 
@@ -223,5 +225,47 @@ public final class Edges3LogTest {
       Due.is("7 is 2's 9", Due.go(x, 0, Due.LOOK, 2, 9), 3);
       Due.is("8 is 1's 9", Due.go(x, 0, Due.LOOK, 1, 9), 4);
     }
+  }
+
+  /** "in the order of their numbers", also of one that is met behind a greater one. */
+  private static void lowerOneIsAddedLater() {
+    ClusterShelf x = new ClusterShelf(2);
+    Due.go(x, 0, Due.MAKE, 0, 5, 1);
+    Due.go(x, 0, Due.MAKE, 0, 6, 2);
+    Due.go(x, 0, Due.LINK, 2, 7, 1);
+    Due.go(x, 0, Due.SYNC);
+    Due.begin(x, 1, Due.REMOVE, 2, 7);
+    for (int t = 0; t < 20 && x.result(1, 4) < 2; t++) {
+      x.tick(1);
+    }
+    Due.is("2 is held", x.lock(1, 2, 0), 2);
+    Due.is("1 is asked for", x.lock(1, 1, 1), 2);
+    Due.begin(x, 0, Due.COUNT, 2);
+    x.tick(2);
+    Due.is("1 isn't there yet", x.lock(1, 1, 0), 0);
+    Due.is("2 is behind it, not pinned, and went down", x.lock(1, 2, 0), 1);
+    x.tick(20);
+    Due.is("it ends", x.result(1, 0), 2);
+    Due.is("and the other one", x.result(0, 0), 2);
+  }
+
+  /** "in the order of the blocks' numbers", also of one that is changed behind a greater one. */
+  private static void lowerBlockIsChangedLater() {
+    ClusterShelf x = file();
+    write(x, 0);
+    Due.go(x, 0, Due.SYNC);
+    Due.is("block 146 alone", Due.begin(x, 0, Due.WRITE, 1, 0, 5), 1);
+    Due.is("log", x.node(0, 2), 1);
+    Due.is("then the inode, too", Due.begin(x, 0, Due.WRITE, 1, 1, 6), 1);
+    Due.is("then the root's block", Due.begin(x, 0, Due.RENAME, 0, 5, 0, 6), 1);
+    Due.is("log", x.node(0, 2), 3);
+    Due.go(x, 0, Due.SYNC);
+    int[] table = {130, 145, 146, 0};
+    for (int j = 0; j < table.length; j++) {
+      Due.is("table " + j, x.word(2, j), table[j]);
+    }
+    Due.is("image of the inode", x.word(3, 2), 2);
+    Due.is("image of the root's block", x.word(4, 0), 6);
+    Due.is("image of the file's block", x.word(5, 1), 6);
   }
 }

@@ -24,6 +24,7 @@ public final class Edges4MessagesTest {
     sharedGoesDownAtOnce();
     aloneWithAnEmptyLog();
     inOrderOfNumbers();
+    leavesByWhatIsCached();
     Due.end();
   }
 
@@ -359,5 +360,27 @@ public final class Edges4MessagesTest {
     for (int i = 0; i < 3; i++) {
       letter("release " + i, x, i, 0, order[i] % 4, RELEASE, order[i], 1);
     }
+  }
+
+  /** "an inode's block, its index and data by what the cached inode and index say". */
+  private static void leavesByWhatIsCached() {
+    ClusterShelf x = new ClusterShelf(2);
+    Due.go(x, 0, Due.MAKE, 0, 5, 1);
+    Due.go(x, 0, Due.MAKE, 0, 6, 1);
+    Due.go(x, 0, Due.WRITE, 1, 128, 3);
+    Due.is("the index", x.cached(0, 130, 11), 146);
+    Due.is("its block", x.cached(0, 146, 0), 147);
+    Due.done("by node 1", x, 129, 1, Due.CUT, 1, 0);
+    Due.nsee("all went", () -> x.cached(0, 147, 0));
+    Due.done("the index again", x, 4, 1, Due.WRITE, 1, 144, 4);
+    Due.done("it stays", x, 145, 1, Due.CUT, 1, 129);
+    Due.done("its block is file 2's", x, 9, 0, Due.WRITE, 2, 0, 9);
+    Due.is("block", x.cached(0, 131, 3), 147);
+    Due.done("file 1 without its index", x, 129, 0, Due.STAT, 1, 2);
+    Due.is("index", x.cached(0, 130, 11), 146);
+    Due.nsee("it isn't cached", () -> x.cached(0, 146, 0));
+    Due.done("by node 1 again", x, 5, 1, Due.WRITE, 1, 0, 5);
+    Due.nsee("the inode went", () -> x.cached(0, 130, 0));
+    Due.is("what isn't the file's stays", x.cached(0, 147, 0), 9);
   }
 }

@@ -262,6 +262,10 @@ public final class Edges5CrashTest {
     Due.refused("2 itself", x, "IllegalStateException", () -> x.start(2));
     Due.refused("3 is up", x, "IllegalStateException", () -> x.start(3));
     x.recover(2);
+    x.crash(3, 0);
+    Due.refused("0, while 3 is", x, "IllegalStateException", () -> x.start(0));
+    x.recover(3);
+    x.start(3);
     x.start(1);
     Due.is("1 is up and joined", x.node(1, 0) + x.node(1, 1), 2);
     Due.is("0 and 2 don't matter", x.node(0, 0) + x.node(0, 1) + x.node(2, 0) + x.node(2, 1), 0);
@@ -270,6 +274,10 @@ public final class Edges5CrashTest {
     Due.refused("joined again", x, "IllegalStateException", () -> x.start(1));
     Due.refused("0, while 1 is", x, "IllegalStateException", () -> x.start(0));
     x.recover(1);
+    x.start(0);
+    x.crash(0, 0);
+    Due.refused("1, while 0 is", x, "IllegalStateException", () -> x.start(1));
+    x.recover(0);
     x.start(0);
     x.start(1);
     x.start(2);

@@ -92,11 +92,14 @@ public final class Edges6WholeTest {
   private static void wrong(String what, int due, int... placesAndWords) {
     ClusterShelf x = tree();
     int[] disk = Inside.disk(x);
+    int[] before = disk.clone();
     for (int i = 0; i < placesAndWords.length; i += 2) {
       disk[placesAndWords[i]] = placesAndWords[i + 1];
     }
     Due.is(what, x.about(9), due);
     Due.is(what + ", asked again", x.about(9), due);
+    System.arraycopy(before, 0, disk, 0, before.length);
+    Due.is(what + ", mended", x.about(9), 0);
   }
 
   private static void right() {
@@ -123,6 +126,8 @@ public final class Edges6WholeTest {
     }
     wrong("behind the size", 0, ENTRIES + 6, 9, ENTRIES + 7, 128);
     wrong("at the end of the size", 1, ROOT + 2, 8, ENTRIES + 6, 9, ENTRIES + 7, 128);
+    wrong("a size without a block: its words are 0", 0, ROOT + 2, 32);
+    wrong("and without an index", 0, ROOT + 2, 384);
     wrong("no name, so no entry", 0, ROOT + 2, 8, ENTRIES + 7, 128);
     wrong("in one that isn't reached", 3, ENTRIES + 2, 0, ENTRIES + 3, 0, 146 * 16 + 1, 128);
     wrong("ahead of all else", 1, ENTRIES + 1, 128, FILE + 1, 7, MAP, 0, DIRECTORY + 3, 1);
