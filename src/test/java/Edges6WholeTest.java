@@ -140,6 +140,10 @@ public final class Edges6WholeTest {
     wrong("by itself", 2, 146 * 16 + 1, 2);
     wrong("the root by itself", 2, ENTRIES + 1, 0);
     wrong("the root by directory 2", 2, 146 * 16 + 1, 0);
+    wrong("inode 1, as a directory", 2, FILE, 2, FILE + 1, 2, FILE + 2, 0,
+        ROOT + 2, 8, ENTRIES + 6, 9, ENTRIES + 7, 1);
+    wrong("the last inode, as a directory", 2, 592 * 16, 2, 592 * 16 + 1, 2,
+        ROOT + 2, 10, ENTRIES + 6, 9, ENTRIES + 7, 127, ENTRIES + 8, 10, ENTRIES + 9, 127);
     wrong("a file twice", 4, ROOT + 2, 8, ENTRIES + 6, 9, ENTRIES + 7, 1);
     wrong("a file twice, with two links", 0,
         ROOT + 2, 8, ENTRIES + 6, 9, ENTRIES + 7, 1, FILE + 1, 2);
