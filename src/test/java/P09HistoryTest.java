@@ -4,6 +4,7 @@ public final class P09HistoryTest {
     facts();
     fates();
     firstOnes();
+    notSafeByAnotherFlush();
     Due.end();
   }
 
@@ -79,5 +80,36 @@ public final class P09HistoryTest {
     Due.is("its node", x.history(399, 0), 1);
     Due.ioobe("no more are kept", () -> x.history(400, 0));
     Due.is("all count", x.about(4), 401);
+  }
+
+  /** A flush carries its own node's calls alone, and of these the ones that its log had. */
+  private static void notSafeByAnotherFlush() {
+    ClusterShelf x = new ClusterShelf(3);
+    for (int k = 1; k <= 3; k++) {
+      Due.done("file", x, k, 0, Due.MAKE, 0, k, 1);
+      Due.go(x, 0, Due.WRITE, k, 0, k);
+    }
+    Due.go(x, 0, Due.SYNC);
+    Due.go(x, 1, Due.WRITE, 1, 0, 11);
+    Due.go(x, 1, Due.WRITE, 2, 0, 12);
+    Due.go(x, 2, Due.WRITE, 3, 0, 13);
+    int first = x.about(4) - 3;
+    Due.begin(x, 0, Due.READ, 1, 0);
+    for (int t = 0; t < 20 && x.node(1, 3) == 0; t++) {
+      x.tick(1);
+    }
+    Due.is("node 1 has a flush, one write of it is done", x.node(1, 3), 6);
+    Due.is("a call that its log gets now", Due.begin(x, 1, Due.WRITE, 2, 0, 14), 1);
+    Due.is("another node's flush begins", Due.begin(x, 2, Due.SYNC), 0);
+    Due.is("node 2 has a flush", x.node(2, 3), 5);
+    x.tick(3);
+    Due.is("node 1's HEAD is written", x.node(1, 3), 3);
+    int[] due = {2, 2, 2, 1};
+    for (int i = 0; i < due.length; i++) {
+      Due.is("call " + i, x.history(first + i, 9), due[i]);
+    }
+    x.crash(1, 0);
+    Due.is("and is gone", x.history(first + 3, 9), 3);
+    Due.is("not what was safe", x.history(first, 9), 2);
   }
 }
